@@ -1,0 +1,104 @@
+import java.util.NoSuchElementException;
+
+/** What the tests share: a package under test, ways to feed it, and a count of wrong answers. */
+final class Due {
+    /** Stands for a NoSuchElementException where an answer is compared; no answer of fault() is as low. */
+    static final int NO_SUCH_ELEMENT = -1001;
+    /** Stands for an ArrayIndexOutOfBoundsException; no answer of at() is as low. */
+    static final int OUT_OF_BOUNDS = -1002;
+
+    private static int asked = 0;
+    private static int wrong = 0;
+
+    final PackageRows2 rows = new PackageRows2();
+
+    static void same(String call, long got, long want) {
+        asked++;
+        if (got != want) {
+            wrong++;
+            System.out.println(call + " answered " + got + ", due is " + want);
+        }
+    }
+
+    static void end() {
+        System.out.println(asked + " answers, " + wrong + " not as due");
+        if (wrong != 0 || asked == 0) {
+            System.exit(1);
+        }
+    }
+
+    static int sumOf(int... bytes) {
+        long total = 1;
+        for (int b : bytes) {
+            total = (total * 65599 + b) % (1L << 32);
+        }
+        return (int) total;
+    }
+
+    static int[] repeat(int count, int value) {
+        int[] bytes = new int[count];
+        java.util.Arrays.fill(bytes, value);
+        return bytes;
+    }
+
+    Due path(String path) {
+        for (char c : path.toCharArray()) {
+            rows.path(c);
+        }
+        return this;
+    }
+
+    Due bytes(int... bytes) {
+        for (int b : bytes) {
+            rows.octet(b);
+        }
+        return this;
+    }
+
+    int file(String path, int... bytes) {
+        return path(path).bytes(bytes).rows.file();
+    }
+
+    int line(String path, int size, int sum) {
+        return path(path).rows.line(size, sum);
+    }
+
+    /** A file and the line that fits it. */
+    void both(String path, int... bytes) {
+        file(path, bytes);
+        line(path, bytes.length, sumOf(bytes));
+    }
+
+    int find(int version, String path) {
+        int place = path(path).rows.find(version);
+        rows.line(-1, 0);
+        return place;
+    }
+
+    int fault(int i, int what) {
+        try {
+            return rows.fault(i, what);
+        } catch (NoSuchElementException e) {
+            return e.getClass() == NoSuchElementException.class ? NO_SUCH_ELEMENT : -1003;
+        }
+    }
+
+    int at(int version, int i, int k) {
+        try {
+            return rows.at(version, i, k);
+        } catch (ArrayIndexOutOfBoundsException e) {
+            return OUT_OF_BOUNDS;
+        }
+    }
+
+    /** The faults of the latest check as kind and number in turn, and that there is none behind them. */
+    void faults(String of, int... kindsAndNumbers) {
+        int count = kindsAndNumbers.length / 2;
+        for (int i = 0; i < count; i++) {
+            same(of + ": fault(" + i + ", 0)", fault(i, 0), kindsAndNumbers[2 * i]);
+            same(of + ": fault(" + i + ", 1)", fault(i, 1), kindsAndNumbers[2 * i + 1]);
+        }
+        same(of + ": fault(" + count + ", 0)", fault(count, 0), NO_SUCH_ELEMENT);
+        same(of + ": fault(" + count + ", 1)", fault(count, 1), NO_SUCH_ELEMENT);
+    }
+}
