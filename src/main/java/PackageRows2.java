@@ -259,13 +259,12 @@ public final class PackageRows2 {
 
         /** Below 0, 0 or above 0; a row that begins another one stands before it. */
         int order(Row other) {
-            int shared = Math.min(count, other.count);
-            for (int k = 0; k < shared; k++) {
+            for (int k = 0; k < count && k < other.count; k++) {
                 if (cells[k] != other.cells[k]) {
-                    return Integer.compare(cells[k], other.cells[k]);
+                    return cells[k] - other.cells[k];
                 }
             }
-            return Integer.compare(count, other.count);
+            return count - other.count;
         }
 
         boolean alike(Row other) {
