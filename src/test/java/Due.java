@@ -6,21 +6,41 @@ final class Due {
     static final int NO_SUCH_ELEMENT = -1001;
     /** Stands for an ArrayIndexOutOfBoundsException; no answer of at() is as low. */
     static final int OUT_OF_BOUNDS = -1002;
+    /** Stands for an exception that is of another class, or thrown by the machine itself. */
+    static final int ANOTHER_THROW = -1003;
 
     private static int asked = 0;
     private static int wrong = 0;
+    private static String words = "";
+    private static int askedBeforeWords = -1;
 
     final PackageRows2 rows = new PackageRows2();
+
+    /** Begins the test of one sentence: its words are printed with each answer that is not as due. */
+    static void words(String where, String sentence) {
+        lookThatWordsWereAsked();
+        words = where + ", \"" + sentence + "\": ";
+        askedBeforeWords = asked;
+    }
+
+    /** A sentence without a question would pass whatever the class does. */
+    private static void lookThatWordsWereAsked() {
+        if (asked == askedBeforeWords) {
+            wrong++;
+            System.out.println(words + "nothing is asked");
+        }
+    }
 
     static void same(String call, long got, long want) {
         asked++;
         if (got != want) {
             wrong++;
-            System.out.println(call + " answered " + got + ", due is " + want);
+            System.out.println(words + call + " answered " + got + ", due is " + want);
         }
     }
 
     static void end() {
+        lookThatWordsWereAsked();
         System.out.println(asked + " answers, " + wrong + " not as due");
         if (wrong != 0 || asked == 0) {
             System.exit(1);
@@ -79,7 +99,7 @@ final class Due {
         try {
             return rows.fault(i, what);
         } catch (NoSuchElementException e) {
-            return e.getClass() == NoSuchElementException.class ? NO_SUCH_ELEMENT : -1003;
+            return e.getClass() == NoSuchElementException.class ? NO_SUCH_ELEMENT : ANOTHER_THROW;
         }
     }
 
@@ -87,7 +107,8 @@ final class Due {
         try {
             return rows.at(version, i, k);
         } catch (ArrayIndexOutOfBoundsException e) {
-            return OUT_OF_BOUNDS;
+            // The machine gives its own ones a message; the class throws without one.
+            return e.getMessage() == null ? OUT_OF_BOUNDS : ANOTHER_THROW;
         }
     }
 
