@@ -9,6 +9,11 @@ final class Due {
     /** Stands for an exception that is of another class, or thrown by the machine itself. */
     static final int ANOTHER_THROW = -1003;
 
+    /** Two rows of bytes of one size and one SUM: only the bytes tell them apart. */
+    static final int[] TWIN_ONE = {191, 110, 21, 192, 227};
+    static final int[] TWIN_TWO = {106, 46, 118, 44, 131};
+    static final int TWIN_SUM = -863212856;
+
     private static int asked = 0;
     private static int wrong = 0;
     private static String words = "";
@@ -59,6 +64,24 @@ final class Due {
         int[] bytes = new int[count];
         java.util.Arrays.fill(bytes, value);
         return bytes;
+    }
+
+    /** A package of so many empty versions. */
+    static Due withVersions(int count) {
+        Due due = new Due();
+        for (int v = 0; v < count; v++) {
+            due.rows.accept();
+        }
+        return due;
+    }
+
+    /** So many files that came with the lines that fit them; file i is of the byte i. */
+    static Due withFiles(int count) {
+        Due due = new Due();
+        for (int i = 0; i < count; i++) {
+            due.both("f" + (char) ('a' + i), i);
+        }
+        return due;
     }
 
     Due path(String path) {
