@@ -22,6 +22,7 @@ public final class CollectEdgeTest {
         nothingCame();
         nothingIsCollected();
         objectsBesideEachOther();
+        theLastCall();
     }
 
     private static void noVersions() {
@@ -75,6 +76,21 @@ public final class CollectEdgeTest {
         Due.same("drop() of the used one", used.rows.drop(), 1);
     }
 
+    private static void theLastCall() {
+        Due.words("What it is", "at most 512 calls after it has been made");
+        Due due = new Due();
+        for (int call = 0; call < 503; call++) {
+            due.rows.octet(call);
+        }
+        due.path("a").rows.file();
+        due.line("a", 40, Due.sumOf(upTo(40, 0)));
+        Due.same("accept(), the 508th call", due.rows.accept(), 0);
+        Due.same("split(0, 40), the 509th call", due.rows.split(0, 40), 1);
+        Due.same("piece(0, true), the 510th call", due.rows.piece(0, true), 0);
+        Due.same("joined(39), the 511th call", due.rows.joined(39), 39);
+        Due.same("at(0, 0, 40), the 512th call", due.at(0, 0, 40), Due.OUT_OF_BOUNDS);
+    }
+
     private static void path() {
         pathOfWideSigns();
         pathBeyondThirty();
@@ -92,7 +108,7 @@ public final class CollectEdgeTest {
             due.rows.accept();
             Due.same("sign(0, 0, 0) of " + sign, due.rows.sign(0, 0, 0), 'a');
         }
-        int[] others = {0, 255, 256, -1, 'A' + 256, LEAST, MOST};
+        int[] others = {0, 255, 256, -1, 'A' + 256, 'a' + 128, LEAST, MOST};
         for (int sign : others) {
             Due due = new Due();
             due.rows.path(sign);
@@ -145,10 +161,10 @@ public final class CollectEdgeTest {
         }
     }
 
-    private static int[] upTo(int count) {
+    private static int[] upTo(int count, int first) {
         int[] bytes = new int[count];
         for (int k = 0; k < count; k++) {
-            bytes[k] = k + 1;
+            bytes[k] = first + k;
         }
         return bytes;
     }
@@ -156,15 +172,15 @@ public final class CollectEdgeTest {
     private static void octetsBeyondForty() {
         Due.words("promise 3", "beyond 40 it is lost");
         Due due = new Due();
-        due.bytes(upTo(39));
-        Due.same("sum() of 39", due.rows.sum(), Due.sumOf(upTo(39)));
+        due.bytes(upTo(39, 1));
+        Due.same("sum() of 39", due.rows.sum(), Due.sumOf(upTo(39, 1)));
         due.bytes(40);
-        Due.same("sum() of 40", due.rows.sum(), Due.sumOf(upTo(40)));
+        Due.same("sum() of 40", due.rows.sum(), Due.sumOf(upTo(40, 1)));
         due.bytes(41);
-        Due.same("sum() of 41", due.rows.sum(), Due.sumOf(upTo(40)));
+        Due.same("sum() of 41", due.rows.sum(), Due.sumOf(upTo(40, 1)));
         due.bytes(42, 43);
         due.path("a").rows.file();
-        Due.same("line()", due.line("a", 40, Due.sumOf(upTo(40))), 1);
+        Due.same("line()", due.line("a", 40, Due.sumOf(upTo(40, 1))), 1);
         Due.same("accept()", due.rows.accept(), 0);
         Due.same("at(0, 0, 0)", due.at(0, 0, 0), 1);
         Due.same("at(0, 0, 39)", due.at(0, 0, 39), 40);

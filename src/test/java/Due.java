@@ -121,7 +121,7 @@ final class Due {
     int fault(int i, int what) {
         try {
             return rows.fault(i, what);
-        } catch (NoSuchElementException e) {
+        } catch (RuntimeException e) {
             return e.getClass() == NoSuchElementException.class ? NO_SUCH_ELEMENT : ANOTHER_THROW;
         }
     }
@@ -129,9 +129,10 @@ final class Due {
     int at(int version, int i, int k) {
         try {
             return rows.at(version, i, k);
-        } catch (ArrayIndexOutOfBoundsException e) {
+        } catch (RuntimeException e) {
             // The machine gives its own ones a message; the class throws without one.
-            return e.getMessage() == null ? OUT_OF_BOUNDS : ANOTHER_THROW;
+            boolean thrown = e.getClass() == ArrayIndexOutOfBoundsException.class && e.getMessage() == null;
+            return thrown ? OUT_OF_BOUNDS : ANOTHER_THROW;
         }
     }
 

@@ -148,6 +148,7 @@ public final class RulesEdgeTest {
     private static void accept() {
         acceptBeginsWithACheck();
         acceptWithoutFaults();
+        acceptLeavesWhatIsCollected();
         acceptOfNothing();
         acceptWithFaults();
     }
@@ -175,6 +176,18 @@ public final class RulesEdgeTest {
         Due.same("drop()", due.rows.drop(), 0);
         Due.same("file()", due.file("a"), 1);
         Due.same("line()", due.line("a", 0, 1), 1);
+    }
+
+    private static void acceptLeavesWhatIsCollected() {
+        Due.words("TO ACCEPT", "what came is a version more: what is collected did not come yet");
+        Due due = new Due();
+        due.both("a");
+        due.path("b").bytes(2);
+        Due.same("accept()", due.rows.accept(), 0);
+        Due.same("sum()", due.rows.sum(), Due.sumOf(2));
+        Due.same("file()", due.rows.file(), 1);
+        due.line("b", 1, Due.sumOf(2));
+        Due.same("accept() of it", due.rows.accept(), 1);
     }
 
     private static void acceptOfNothing() {

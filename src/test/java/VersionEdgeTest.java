@@ -57,6 +57,7 @@ public final class VersionEdgeTest {
     private static void about() {
         aboutNoVersion();
         aboutNoFile();
+        aboutNoFileBehindTheEighth();
         aboutAnotherWhat();
         aboutTheLeast();
         aboutTheMost();
@@ -84,6 +85,22 @@ public final class VersionEdgeTest {
                 Due.same("about(0, " + i + ", " + what + ")", due.rows.about(0, i, what), NONE);
             }
         }
+    }
+
+    private static Due withEightFiles() {
+        Due due = Due.withFiles(8);
+        due.rows.accept();
+        return due;
+    }
+
+    private static void aboutNoFileBehindTheEighth() {
+        Due.words("promise 12", "NONE: no such file, of the most files");
+        Due due = withEightFiles();
+        for (int what = 0; what < 4; what++) {
+            Due.same("about(0, 8, " + what + ")", due.rows.about(0, 8, what), NONE);
+            Due.same("about(0, -1, " + what + ")", due.rows.about(0, -1, what), NONE);
+        }
+        Due.same("about(0, 7, 0)", due.rows.about(0, 7, 0), 1);
     }
 
     private static void aboutAnotherWhat() {
@@ -177,6 +194,8 @@ public final class VersionEdgeTest {
             Due.same("sign(" + place + ", 0, 0)", due.rows.sign(place, 0, 0), NONE);
         }
         Due.same("sign(1, 0, 0)", due.rows.sign(1, 0, 0), NONE);
+        Due.same("sign(0, 7, 0) of 8", withEightFiles().rows.sign(0, 7, 0), 'f');
+        Due.same("sign(0, 8, 0) of 8", withEightFiles().rows.sign(0, 8, 0), NONE);
     }
 
     private static void at() {
@@ -230,6 +249,8 @@ public final class VersionEdgeTest {
             Due.same("at(" + i + ", 0, 0)", due.at(i, 0, 0), NONE);
         }
         Due.same("at(1, 0, 0)", due.at(1, 0, 0), NONE);
+        Due.same("at(0, 7, 0) of 8", withEightFiles().at(0, 7, 0), 7);
+        Due.same("at(0, 8, 0) of 8", withEightFiles().at(0, 8, 0), NONE);
         Due.same("at(12, 0, 0) of 12", Due.withVersions(12).at(12, 0, 0), NONE);
     }
 
